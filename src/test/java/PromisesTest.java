@@ -388,6 +388,13 @@ public final class PromisesTest {
         x = housed(TWO_HOLES);
         x.size(1, 0);
         due("flow of no size", x.flow(1), 0);
+        // As far apart as can be: 1000 outside, -200 within; -580 outside.
+        x = housed("h0w100,0;h0s992,0;");
+        x.set(0, 40);
+        x.set(1, 20);
+        due("push(0)", x.push(0), -200);
+        due("the root of 1200", x.flow(0), 34);
+        due("9 times the root of 380", x.flow(1), -171);
     }
 
     private static void promise13() {
@@ -399,6 +406,11 @@ public final class PromisesTest {
         due("lean(0)", x.lean(0), 0);
         due("lean(1)", x.lean(1), 0);
         due("lean(2)", x.lean(2), -1);
+        // 1 flows in, and the room goes from 0 to 1 and back.
+        DraughtsByCandle y = housed("n1;h0p140,0;h0p150,0;");
+        y.set(0, 1);
+        due("a flow of 1", y.flow(0), 1);
+        due("lean by 1", y.lean(0), 1);
         due("lean(-1)", x.lean(-1), -1);
         due("refusals", refusals(x), 20000);
     }
@@ -464,6 +476,8 @@ public final class PromisesTest {
     private static void promise17() {
         promise = 17;
         DraughtsByCandle x = housed(TWO_HOLES);
+        due("best(0, 0)", x.best(0, 0), 0);
+        due("best(0, 1)", x.best(0, 1), 50);
         due("best(2, 0)", x.best(2, 0), 0);
         due("best(2, 1)", x.best(2, 1), 50);
         due("best(3, 0)", x.best(3, 0), 2);
@@ -498,6 +512,9 @@ public final class PromisesTest {
         due("pairs(2)", x.pairs(2), -2);
         due("pairs(-1)", x.pairs(-1), -2);
         due("refusals", refusals(x), 2000);
+        x = housed("n1;h0p950,0;h0p950,0;h0p100,0;");
+        due("a pair with hole 0", x.pairs(0), 1);
+        due("a pair with hole 0", x.pairs(1), 1);
         x = housed(TWO_HOLES);
         due("pairs(0)", x.pairs(0), 0);
         due("pairs(1)", x.pairs(1), -9);
@@ -558,9 +575,22 @@ public final class PromisesTest {
         due("alike", x.finger(), 0);
         x.set(0, 0);
         due("nothing flows in", x.finger(), -9);
+        // In room 1 it makes 5 and 12, in room 0 but 6 and 10.
+        x = housed("h1p250,0;h1p200,0;h0p150,0;h0p100,0;");
+        due("a later one", x.finger(), 3);
+        x = housed("n1;h0p950,0;h0p900,0;");
+        due("all are wide", x.finger(), -9);
+        x.size(1, 8);
+        due("up to 9", x.finger(), 1);
+        // The door would make no more coal than before; it is no hole.
+        x = housed("d013;h0p100,0;h1p150,0;");
+        due("no door", x.finger(), 1);
         // A hole of no size yet may be the one.
         x = housed("n1;h0p150,0;h0p000,0;");
         due("of no size", x.finger(), 1);
+        x = housed("n1;h0p150,0;h0p040,0;");
+        x.set(0, 1);
+        due("1 flows in then", x.finger(), 1);
     }
 
     private static void promise22() {
@@ -571,6 +601,7 @@ public final class PromisesTest {
         due("number(-20)", x.number(-20), 3);
         due("number(0)", x.number(0), 0);
         due("number(50)", x.number(50), 5);
+        due("number(-50)", x.number(-50), 5);
         due("number(51)", x.number(51), -6);
         due("number(-51)", x.number(-51), -4);
         due("refusals", refusals(x), 11);
@@ -603,6 +634,9 @@ public final class PromisesTest {
         due("both", x.turnsAbout(), 3);
         x.size(0, 0);
         due("nothing flows", x.turnsAbout(), 0);
+        // 1 in and 1 out, then the other way.
+        x = housed("n1;h0p150,0;h0p152,0;w0,2,0;w0,2,2;");
+        due("by a flow of 1", x.turnsAbout(), 3);
         // A fan holds against one of the winds alone; the weather now is none of those told.
         x = housed("n1;h0f150,0;h0p152,0;w0,4,0;");
         x.set(1, 4);
