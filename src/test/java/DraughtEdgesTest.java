@@ -590,6 +590,11 @@ public final class DraughtEdgesTest {
         }
         Due.is("alike", Due.housed("h0p150,0;h0p100,0;h1p150,0;h1p100,0;").chair(), 0);
         Due.is("the lesser of two alike", Due.housed("n3;h0p250,0;h0p200,0;h1p150,0;h1p100,0;h2p150,0;h2p100,0;").chair(), 1);
+        // 18 by the hole in 0, 12 by the one in 1, and 12 by the door in both, whichever is its first.
+        Due.is("a door's second", Due.housed("h0p900,0;h1p250,0;d106;").chair(), 1);
+        Due.is("a door's first", Due.housed("h0p900,0;h1p250,0;d016;").chair(), 1);
+        Due.is("a door's second", Due.housed("h0p360,0;h1p830,0;d108;").chair(), 0);
+        Due.is("a door's first", Due.housed("h0p360,0;h1p830,0;d018;").chair(), 0);
         // In and out do not make each other less: 5 in and 5 out are more than nothing.
         Due.is("in and out", Due.housed("n2;h0p150,0;h0p100,0;h1p000,0;").chair(), 1);
         int[][] airs = {{40, 20, 0, 50}, {1, 20, 2, -50}, {10, 0, 0, 0}, {40, 7, 3, 7}};
